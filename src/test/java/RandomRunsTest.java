@@ -49,8 +49,24 @@ public final class RandomRunsTest {
         if (random.nextInt(3) != 0) {
             call("huts", dear ? 5 : 1 + random.nextInt(4));
         }
+        if (random.nextInt(3) != 0) {
+            settle();
+        }
         for (int i = 0; i < CALLS && wrong < 5; i++) {
             step(dear);
+        }
+    }
+
+    /** Some variety from the start: most runs would reach it late, if ever. */
+    private void settle() {
+        for (int hut = 0; hut < model.n; hut++) {
+            call("hut", hut, 0, random.nextInt(4));
+            call("hut", hut, 1, random.nextInt(31));
+            call("hut", hut, 2, random.nextInt(2) == 0 ? 0 : random.nextInt(4));
+            call("hut", hut, 3, 5 * random.nextInt(3) + random.nextInt(3));
+        }
+        for (int i = random.nextInt(5); i >= 0; i--) {
+            learn();
         }
     }
 
