@@ -181,7 +181,7 @@ public final class HenHuts {
     }
 
     public int spelled(int set, int looks, int i) {
-        if (!isAim(set, looks) || i < -1) {
+        if (!isAim(set, looks)) {
             return OUTSIDE;
         }
         paths.explore(wood, wood.known);
@@ -952,7 +952,7 @@ public final class HenHuts {
             return -1;
         }
 
-        /** The i-th WORD of the row that leads to a number which was found; NONE: the row is not so long. */
+        /** The i-th WORD of the row that leads to a number which was found; NONE: the row has no such WORD. */
         int wordOfRow(int end, int i) {
             if (i < 0 || i >= depth[end]) {
                 return NONE;

@@ -456,8 +456,13 @@ public final class PromisesTest {
         for (int looks : new int[] {-1, 64, LEAST, MOST}) {
             due(16, "no such number", x.spelled(1, looks, -1), OUTSIDE);
         }
-        due(16, "i = -2", x.spelled(1, 3, -2), OUTSIDE);
-        due(16, "i by far", x.spelled(1, 3, MOST), NONE);
+        for (int i : new int[] {-2, -3, LEAST, MOST}) {
+            due(16, "no such WORD of the row", x.spelled(1, 3, i), NONE);
+            due(16, "no such WORD of no row", x.spelled(7, 0, i), NONE);
+            due(16, "no such WORD, it can not be", x.spelled(4, 16, i), NONE);
+            due(16, "no such set, whatever i", x.spelled(8, 0, i), OUTSIDE);
+            due(16, "no such number, whatever i", x.spelled(1, 64, i), OUTSIDE);
+        }
         x.hut(0, 2, 2);
         due(16, "a contrary one", x.spelled(1, 3, -1), 1);
         due(16, "its WORD, of two", x.spelled(1, 3, 0), 4);

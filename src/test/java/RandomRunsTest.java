@@ -192,7 +192,7 @@ public final class RandomRunsTest {
                 call("spelled", set, looks, -1);
                 break;
             case 4:
-                call("spelled", set, looks, random.nextInt(4) == 0 ? number(9) : random.nextInt(3));
+                call("spelled", set, looks, random.nextInt(4) == 0 ? number(9) : random.nextInt(5) - 2);
                 break;
             case 5:
                 call("tired", set, looks);
@@ -1035,7 +1035,7 @@ public final class RandomRunsTest {
                 case "can":
                     return !isLooks(a[0]) ? -2 : closure().contains(a[0]) ? 1 : 0;
                 case "spelled":
-                    return !isSet(a[0]) || !isLooks(a[1]) || a[2] < -1 ? -2 : spelled(a[0], a[1], a[2]);
+                    return !isSet(a[0]) || !isLooks(a[1]) ? -2 : spelled(a[0], a[1], a[2]);
                 case "tired":
                     return !isSet(a[0]) || !isLooks(a[1]) ? -2 : fromNow(costs(goals(a[0], a[1]), known(), true));
                 case "able":
