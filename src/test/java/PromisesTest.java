@@ -46,7 +46,7 @@ public final class PromisesTest {
         // first aside, so that no HUT is on a CELL that another one is to have
         for (int i = 0; i < cells.length; i++) {
             int aside = 0;
-            while (aims.contains(" " + aside + ",") || x.hut(i, 3, aside) < 0) {
+            while (aside < 25 && (aims.contains(" " + aside + ",") || x.hut(i, 3, aside) < 0)) {
                 aside++;
             }
         }
