@@ -132,6 +132,39 @@ public final class CallersEdgesTest extends Edges {
         two("ws", BY_NONE, BY_TWO, 1, 2);
     }
 
+    // one WORD that lets the other in is not all of them
+    static void promise21OneOfSeveralWordsIsSafe() {
+        two("ew", BY_TWO | BY_THREE, BY_TWO, 2, 0);
+        two("we", BY_ONE | BY_TWO, BY_TWO, 2, 0);
+        two("sw", BY_ONE, BY_ONE | BY_TWO, 1, 2);
+    }
+
+    // what was asked ahead does not count
+    static void promise21AskedAgainAndOtherwise() {
+        HenHuts x = spelling("n", "1", "2");
+        due("behind two", x.two(0, 2, 3, 1, 1, 1), 2);
+        due("nobody", x.two(0, 1, 3, 2, 2, 0), 2);
+        due("nobody, behind", x.two(0, 1, 3, 2, 2, 1), 0);
+        due("behind two", x.two(0, 2, 3, 1, 1, 1), 2);
+        due("at once", x.two(0, 0, 3, 1, 1, 0), 0);
+        due("at once, behind", x.two(0, 0, 3, 1, 1, 1), 0);
+        due("at once, the other", x.two(0, 2, 0, 1, 1, 0), 1);
+        due("at once, the other, behind", x.two(0, 2, 0, 1, 1, 1), 0);
+    }
+
+    // each of the six WORDS may be one's own
+    static void promise21TheFirstAndTheLastWord() {
+        for (int word : new int[] {0, 5}) {
+            HenHuts x = looking("n");
+            learn(x, word, "1");
+            due("who", x.two(0, 1, 2, 1 << word, 1 << word, 0), 0);
+            due("behind", x.two(0, 1, 2, 1 << word, 1 << word, 1), 1);
+            due("the other one's", x.two(0, 2, 3, 1 << word, 1 << word, 1), 2);
+            x.unword(word);
+            due("a WORD that is forgotten", x.two(0, 1, 2, 1 << word, 1 << word, 0), OUTSIDE);
+        }
+    }
+
     // KINDS as they are: an odd HUT goes on only from east and west; LEGS are not looked at
     static void promise21KindsAndLegs() {
         two(3, "e", "sn", BY_ONE, BY_ONE, 0, 1);
@@ -226,6 +259,24 @@ public final class CallersEdgesTest extends Edges {
         due("now", x.pairs(), 1);
     }
 
+    // a HUT that goes elsewhere faces none any more; one that comes between parts them
+    static void promise22HutsThatGo() {
+        HenHuts x = standing("ewn", 0, 4, 12);
+        due("in a row", x.pairs(), 1);
+        x.hut(2, 3, 2);
+        due("one came between", x.pairs(), 0);
+        x.hut(2, 3, 7);
+        due("it went", x.pairs(), 1);
+        x.hut(1, 3, 24);
+        due("one went away", x.pairs(), 0);
+        x.hut(1, 3, 1);
+        due("it came again", x.pairs(), 1);
+        x.hut(1, 0, 0);
+        due("it turned", x.pairs(), 0);
+        x.huts(2);
+        due("as at first", x.pairs(), 0);
+    }
+
     // ---- danced
 
     // "OUTSIDE: 1, 2"
@@ -257,6 +308,19 @@ public final class CallersEdgesTest extends Edges {
         HenHuts x = spelling("nn", "13");
         x.hut(1, 2, 1);
         due("a deaf one", x.danced(1), NONE);
+    }
+
+    // WORDS that are known: one that is forgotten is not said any more; the last is said as the first
+    static void promise23WordsThatAreKnown() {
+        for (int word : new int[] {0, 5}) {
+            HenHuts x = looking("nnnn");
+            learn(x, word, "1313");
+            due("one two by it", x.danced(1), 1);
+            due("two twos by it", x.danced(2), 1);
+            x.unword(word);
+            due("it is forgotten", x.danced(1), NONE);
+            due("it is forgotten", x.danced(2), NONE);
+        }
     }
 
     // "the fewest WORDS (LEGS not being looked at)"; ways come round
@@ -306,6 +370,17 @@ public final class CallersEdgesTest extends Edges {
             due("of " + looks[i], looking(looks[i]).majority(3), due[i]);
         }
         due("most of them, but not half", looking("wwnes").majority(3), NONE);
+    }
+
+    // WORDS that are known: one that is forgotten is not said any more; the last is said as the first
+    static void promise25WordsThatAreKnown() {
+        for (int word : new int[] {0, 5}) {
+            HenHuts x = looking("nnn");
+            learn(x, word, "110");
+            due("by it", x.majority(1), 1);
+            x.unword(word);
+            due("it is forgotten", x.majority(1), NONE);
+        }
     }
 
     // "the fewest WORDS"; "NONE"

@@ -62,6 +62,13 @@ public final class EveningsEdgesTest extends Edges {
     static void promise09AnEveningOfNothing() {
         judgedWell(new HenHuts(), "", 0, 0);
         judgedWell(busy(), "", 0, 0);
+        HenHuts x = spelling("n", "1");
+        judgedWell(x, "a0e", 1, 1);
+        judgedWell(x, "", 0, 0);
+        judged(x, "0s", 0, 2);
+        judgedWell(x, "", 0, 0);
+        judged(x, "b", 0, 1);
+        judgedWell(x, "", 0, 0);
     }
 
     // "the first EVENT (from 0 on) that can not be": a knock has two signs, and is one EVENT
@@ -76,16 +83,14 @@ public final class EveningsEdgesTest extends Edges {
 
     // all 60 places taken: the last EVENT that there can be
     static void promise09TheLastEventOfAFullPad() {
-        HenHuts x = spelling("n", "1");
-        judgedWell(x, DOTS, 0, 0);
-        judged(x, DOTS.substring(1) + "b", 59, 1);
-        judged(x, DOTS.substring(2) + "0s", 58, 2);
-        judgedWell(x, DOTS.replace("..", "0n"), 0, 30);
-        judged(x, DOTS.substring(2).replace("..", "0n") + "0e", 29, 2);
-        x.hut(0, 1, 30);
-        judgedWell(x, DOTS.replace('.', 'a'), 30, 0);
-        judgedWell(x, DOTS.replace("..", "a."), 30, 0);
-        judgedWell(x, DOTS.replace("..", ".a"), 30, 0);
+        judgedWell(one(0, "n", 9, "1"), DOTS, 0, 0);
+        judged(one(0, "n", 9, "1"), DOTS.substring(1) + "b", 59, 1);
+        judged(one(0, "n", 9, "1"), DOTS.substring(2) + "0s", 58, 2);
+        judgedWell(one(0, "n", 9, "1"), DOTS.replace("..", "0n"), 0, 30);
+        judged(one(0, "n", 9, "1"), DOTS.substring(2).replace("..", "0n") + "0e", 29, 2);
+        judgedWell(one(0, "n", 30, "1"), DOTS.replace('.', 'a'), 30, 0);
+        judgedWell(one(0, "n", 30, "1"), DOTS.replace("..", "a."), 30, 0);
+        judgedWell(one(0, "n", 30, "1"), DOTS.replace("..", ".a"), 30, 0);
     }
 
     // "1 the WORD is not known": each of the six, if the other five are known
@@ -178,6 +183,7 @@ public final class EveningsEdgesTest extends Edges {
         for (int what = 0; what < 2; what++) {
             int asked = what;
             refused("a FAULT", () -> busy(FAULTY), x -> x.behind(0, asked), NO);
+            refused("a HUT that there is not", () -> busy("4n"), x -> x.behind(0, asked), NO);
             refused("a wall", () -> busy(WALL), x -> x.behind(0, asked), STATE);
             refused("no such WORD", () -> busy(NO_WORD), x -> x.behind(0, asked), STATE);
         }
@@ -245,8 +251,21 @@ public final class EveningsEdgesTest extends Edges {
         due("IMAGES stay", x.restore(0), STATE);
     }
 
+    // all five HUTS, to the last
+    static void promise11AllFiveHuts() {
+        HenHuts x = spelling("neswn", "12312");
+        happen(x, "a*");
+        due("LOOKS", x.told(4), number("wewsn"));
+        int[] legs = {8, 7, 6, 8, 7};
+        for (int hut = 0; hut < 5; hut++) {
+            due("LEGS now", x.told(10 * (1 + hut) + 1), legs[hut]);
+            due("LEGS at most", x.told(10 * (1 + hut) + 2), 9);
+        }
+    }
+
     // "NO, STATE, likewise"
     static void promise11NoAndStateLikewise() {
+        refused("a HUT that there is not", () -> busy("4n"), HenHuts::done, NO);
         refused("a FAULT", () -> busy(FAULTY), HenHuts::done, NO);
         refused("a wall", () -> busy(WALL), HenHuts::done, STATE);
         refused("a wall behind all", () -> busy("e*.0e"), HenHuts::done, STATE);

@@ -78,8 +78,10 @@ public final class HutsEdgesTest extends Edges {
                 x.hut(hut, 1, 20);
                 x.hut(hut, 2, 2);
             }
-            learn(x, 0, "33333");
+            learn(x, 0, "11111");
             happen(x, "a");
+            due("they LOOK south", x.told(4), number("sssss"));
+            due("they are tired", x.told(51), 19);
             x.huts(n);
             dueAtFirst(x, n);
             x.huts(5);
@@ -98,6 +100,32 @@ public final class HutsEdgesTest extends Edges {
             due("unword", x.unword(word), UNKNOWN);
         }
         due("nothing is reached by them", x.reached(), 1);
+    }
+
+    // HUTS that there are not any more neither turn nor sit, by WORDS that they had once heeded
+    static void promise02HutsThatWentDoNotTurn() {
+        HenHuts x = spelling("nnnnn", "11123", "32111");
+        x.huts(2);
+        learn(x, 0, "20");
+        learn(x, 1, "22");
+        due("reached()", x.reached(), 4);
+        due("can(2)", x.can(2), 1);
+        due("spelled", x.spelled(3, number("ns"), -1), 2);
+        due("tired", x.tired(1, 2), 2);
+        due("able", x.able(3, number("ss")), 1);
+        due("round", x.round(3, 22), 3);
+        due("majority", x.majority(2), 1);
+        pad(x, "ab");
+        due("turns", x.judge(2), 6);
+        due("done()", x.done(), 2);
+        due("LOOKS", x.told(4), number("ns"));
+        for (int word = 2; word < 6; word++) {
+            learn(x, word, "20");
+        }
+        learn(x, 1, "20");
+        due("ninety, turns", x.ninety(0, 1, 0), 2);
+        x.hut(0, 1, 0);
+        due("ninety, who sat", x.ninety(0, 1, 2), 1);
     }
 
     // "SIGHTS go"
@@ -600,9 +628,12 @@ public final class HutsEdgesTest extends Edges {
             x.hut(hut, 1, 10 + hut);
         }
         happen(x, "aa");
+        for (int hut = 0; hut < 5; hut++) {
+            dueHut("each is tired", x, hut, "s", 8 + hut);
+        }
         happen(x, ".");
         for (int hut = 0; hut < 5; hut++) {
-            dueHut("each", x, hut, "s", 10 + hut);
+            dueHut("each has all", x, hut, "s", 10 + hut);
         }
     }
 }

@@ -9,6 +9,73 @@ public final class SpellsEdgesTest extends Edges {
         return spelling(looks, "10000", "01000", "00100", "00010", "00001");
     }
 
+    // ---- of all of them
+
+    // "by WORDS that are known": one that is forgotten is not said any more, though it was asked for ahead
+    static void terms3WordsThatAreForgottenAreNotSaid() {
+        HenHuts x = spelling("nn", "10", "30", "01");
+        due("reached()", x.reached(), 16);
+        due("can(3)", x.can(3), 1);
+        due("spelled", x.spelled(1, 3, -1), 1);
+        due("tired", x.tired(1, 3), 3);
+        due("able", x.able(1, 3), 1);
+        due("without", x.without(0, 1, 3), 0);
+        due("round", x.round(1, 3), 2);
+        x.unword(1);
+        due("reached()", x.reached(), 16);
+        due("spelled", x.spelled(1, 3, -1), 3);
+        due("tired", x.tired(1, 3), 3);
+        due("able", x.able(1, 3), 3);
+        due("without", x.without(0, 1, 3), NONE);
+        due("without, whether it is", x.without(2, 1, 3), 0);
+        due("round", x.round(1, 3), 4);
+        x.unword(0);
+        due("reached()", x.reached(), 4);
+        due("can(3)", x.can(3), 0);
+        due("spelled", x.spelled(1, 3, -1), NONE);
+        due("spelled, its WORD", x.spelled(1, 3, 0), NONE);
+        due("tired", x.tired(1, 3), NONE);
+        due("able", x.able(1, 3), NONE);
+        due("without", x.without(2, 1, 3), NONE);
+        due("round", x.round(1, 3), NONE);
+        x.unword(2);
+        due("reached()", x.reached(), 1);
+        due("can(4)", x.can(4), 0);
+        due("spelled", x.spelled(2, 4, -1), NONE);
+        due("tired", x.tired(2, 4), NONE);
+        due("round", x.round(2, 1), NONE);
+    }
+
+    // "WORDS 0 to 5": the first alone, the last alone
+    static void terms3TheFirstAndTheLastWord() {
+        for (int word : new int[] {0, 5}) {
+            HenHuts x = looking("nn");
+            learn(x, word, "21");
+            due("reached()", x.reached(), 4);
+            due("can", x.can(number("se")), 1);
+            due("spelled", x.spelled(3, number("se"), -1), 1);
+            due("spelled, its WORD", x.spelled(3, number("se"), 0), word);
+            due("tired", x.tired(3, number("se")), 3);
+            due("able", x.able(3, number("se")), 1);
+            due("without", x.without(word, 3, number("se")), NONE);
+            due("round", x.round(3, 21), 3);
+        }
+    }
+
+    // all five HUTS, to the last, from wherever they LOOK
+    static void terms3TheLastOfFiveHuts() {
+        HenHuts x = spelling("neesw", "00001", "00020");
+        due("reached()", x.reached(), 8);
+        due("can", x.can(number("neess")), 1);
+        due("spelled", x.spelled(16, number("nnnns"), -1), 3);
+        due("tired", x.tired(24, number("nnnns")), 5);
+        due("able", x.able(16, number("nnnns")), 3);
+        due("able, two of them", x.able(24, number("nnnns")), 4);
+        due("without", x.without(0, 16, number("nnnns")), NONE);
+        due("round", x.round(24, 2), 6);
+        due("round, all", x.round(31, 1102), 9);
+    }
+
     // ---- reached, can
 
     // "by WORDS that are known .. (with that of now)"
@@ -500,6 +567,23 @@ public final class SpellsEdgesTest extends Edges {
         due("an odd one is knocked at first", y.round(5, 11), 3);
         due("an odd one stays south", y.round(5, 23), 5);
         due("an odd one never LOOKS north", y.round(1, 0), NONE);
+    }
+
+    // rows of WORDS that end alike may have brought other letters on the way
+    static void promise20WhichLettersAreInOnTheWay() {
+        HenHuts x = spelling("nn", "12", "21");
+        due("by b, then a", x.round(3, 23), 4);
+        due("by a, then b", x.round(3, 13), 4);
+        due("by b, then a", x.round(3, 31), 4);
+        due("by a, then b", x.round(3, 32), 4);
+        HenHuts y = spelling("nn", "22", "10");
+        due("by b, then a", y.round(3, 12), 4);
+        due("by a, then b", y.round(3, 32), 4);
+        HenHuts z = spelling("nn", "22", "13");
+        due("one now, then by both", z.round(3, 30), 4);
+        HenHuts still = spelling("ww", "00", "10");
+        due("beside a WORD that turns none", still.round(1, 2), 4);
+        due("beside a WORD that turns none, both", still.round(3, 3 + 20), 5);
     }
 
     // "NONE"

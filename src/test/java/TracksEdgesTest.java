@@ -251,6 +251,22 @@ public final class TracksEdgesTest extends Edges {
         tracks(z, "*", 0, NONE);
     }
 
+    // what was asked ahead does not count
+    static void promise28AskedAgainAndOtherwise() {
+        HenHuts x = looking("nn");
+        x.seen(1, 0, 3);
+        tracks(x, "", 4, 12);
+        x.seen(1, 0, 2);
+        tracks(x, "", 0, NONE);
+        x.forget();
+        tracks(x, "", 16, 0);
+        x.seen(0, 0, 2);
+        tracks(x, "", 4, 2);
+        x.forget();
+        x.seen(1, 0, 1);
+        tracks(x, "", 4, 4);
+    }
+
     // each of six places is looked at: the last one alone quarrels
     static void promise28TheLastSightCounts() {
         HenHuts x = looking("nnnnn");
@@ -537,6 +553,51 @@ public final class TracksEdgesTest extends Edges {
         write(x, "..");
         due("the SIGHT of HUT 3", x.looked(3), 4);
         due("the SIGHT of HUT 0", x.looked(0), 2);
+    }
+
+    /** Five HUTS, six WORDS, six SIGHTS that do not quarrel, kept in an IMAGE. */
+    private static HenHuts full(int image) {
+        HenHuts x = spelling("wwwww", "12312", "23123", "31231", "12121", "13131", "32323");
+        for (int hut = 0; hut < 5; hut++) {
+            x.hut(hut, 1, 20 + hut);
+            x.hut(hut, 2, 3);
+            x.hut(hut, 3, 24 - hut);
+            x.seen(hut % 4, 25 + hut, 1);
+        }
+        happen(x, "ac");
+        x.seen(4, 30, 2);
+        x.image(image);
+        return x;
+    }
+
+    // all places taken: five HUTS, six WORDS, six SIGHTS, to the last
+    static void promise32AFullWoodIsKept() {
+        for (int n = 0; n < 2; n++) {
+            due("six SIGHTS", full(n).told(3), 6);
+            HenHuts x = full(n);
+            x.huts(5);
+            due("restore(" + n + ")", x.restore(n), 1);
+            due("LOOKS of the last HUT", x.told(50), 2);
+            due("LEGS of the last HUT", x.told(51), 21);
+            due("LEGS at most of the last HUT", x.told(52), 24);
+            due("KIND of the last HUT", x.told(53), 3);
+            due("CELL of the last HUT", x.told(54), 20);
+            due("the turn of the last HUT by the last WORD", x.told(604), 3);
+            dueSame("restored", x, full(n));
+            HenHuts y = full(n);
+            y.huts(5);
+            for (int i = 0; i < 6; i++) {
+                y.seen(0, 3, 0);
+                learn(y, i, "00000");
+            }
+            y.restore(n);
+            write(y, DOTS.substring(0, 29));
+            due("the last SIGHT, behind too few EVENTS", y.tracks(0), 0);
+            y.say('.');
+            due("the last SIGHT", y.looked(4), 4);
+            y.wipe();
+            dueSame("restored over other SIGHTS and WORDS", y, full(n));
+        }
     }
 
     // it is kept, and nothing is changed by that
