@@ -27,6 +27,7 @@ public final class LanguageTest {
         "import (?!java\\.util\\.(Arrays|ArrayList|List|Iterator);)"};
     // 7.3 million fields and elements of four bytes each
     private static final long ROOM = 4L * 7_300_000;
+    private static final Pattern HEAD = Pattern.compile("^( {4}| {8})[a-z][A-Za-z\\[\\] ]* ?[A-Za-z]+\\(.*\\) \\{$");
     private static int wrong = 0;
 
     private static void check(boolean so, String what) {
@@ -124,7 +125,7 @@ public final class LanguageTest {
         int start = -1;
         String indent = "";
         for (int i = 0; i < lines.length; i++) {
-            Matcher head = Pattern.compile("^( {4}| {8})[a-z][A-Za-z\\[\\] ]* ?[A-Za-z]+\\(.*\\) \\{$").matcher(lines[i]);
+            Matcher head = HEAD.matcher(lines[i]);
             if (start < 0 && head.matches() && !lines[i].matches(" *(if|for|while|switch|else).*")) {
                 start = i;
                 indent = head.group(1);

@@ -515,8 +515,8 @@ public final class SpellsEdgesTest extends Edges {
             due("3 at place " + place, x.round(31, 3 * place), NONE);
         }
         due("a sixth digit", x.round(31, 100000), OUTSIDE);
-        refusedAll("round, the sides", (y, sides) -> y.round(5, sides), OUTSIDE, -1, -11, 4, 40, 34, 43, 100, 111, LEAST,
-            MOST, -10);
+        refusedAll("round, the sides", (y, sides) -> y.round(5, sides), OUTSIDE, -1, -10, -11, 4, 40, 34, 43, 100,
+            111, LEAST, MOST);
         refusedAll("round of nobody", (y, sides) -> y.round(0, sides), OUTSIDE, -1, 1, 3, 10, LEAST, MOST);
         refusedAll("round of one", (y, sides) -> y.round(8, sides), OUTSIDE, -1, 4, 10, 12, LEAST, MOST);
     }
